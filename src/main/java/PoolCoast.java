@@ -317,7 +317,7 @@ public final class PoolCoast {
 
     public int plan(int pools, int day, int days, int gangs, int bound) {
         boolean counted = within(days, 1, Planner.DAYS_MOST) && within(gangs, 1, 3) && within(bound, 0, 999);
-        boolean known = pools > 0 && pools < 1 << poolCount && Integer.bitCount(pools) <= Planner.POOLS_MOST;
+        boolean known = pools > 0 && pools < 1 << poolCount && Integer.bitCount(pools) <= Planner.SET_MOST;
         if (!counted || !known || !within(day, dayNow() + 1, DAYS - days)
                 || day * DAY_HOURS - 1 > hourNow() + HOURS_AHEAD) {
             return NONE;
@@ -1211,16 +1211,16 @@ public final class PoolCoast {
     /** The search for a cleaning plan: for each pool one choice, a day by its place or none. */
     private static final class Planner {
         static final int DAYS_MOST = 6;
-        static final int POOLS_MOST = 4;
+        static final int SET_MOST = 4;
         private static final int CHOICES = 7;
         private static final int FORBIDDEN = -1;
         private static final int FAR = 1000000;
 
-        final int[] dayPlanned = new int[PoolCoast.POOLS_MOST];
-        private final int[] numbers = new int[POOLS_MOST];
-        private final int[] costs = new int[POOLS_MOST * CHOICES];
-        private final int[] chosen = new int[POOLS_MOST];
-        private final int[] best = new int[POOLS_MOST];
+        final int[] dayPlanned = new int[POOLS_MOST];
+        private final int[] numbers = new int[SET_MOST];
+        private final int[] costs = new int[SET_MOST * CHOICES];
+        private final int[] chosen = new int[SET_MOST];
+        private final int[] best = new int[SET_MOST];
         private final int[] busyGangs = new int[CHOICES];
         private int size;
         private int days;
@@ -1262,12 +1262,12 @@ public final class PoolCoast {
 
         /** Goes through all choices in order: only a lesser cost takes the place of an earlier plan. */
         private void choose(int place, int cost) {
-            if (cost >= leastCost || place > POOLS_MOST) {
+            if (cost >= leastCost || place > SET_MOST) {
                 return;
             }
             if (place == size) {
                 leastCost = cost;
-                System.arraycopy(chosen, 0, best, 0, POOLS_MOST);
+                System.arraycopy(chosen, 0, best, 0, SET_MOST);
                 return;
             }
             for (int choice = 0; choice <= days; choice++) {
