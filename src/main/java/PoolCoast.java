@@ -46,9 +46,12 @@ public final class PoolCoast {
     private static final int AT_LEAST = 3;
     private static final int MORE = 4;
 
-    // A ruling's code: these, AND, OR and NOT, or COMPARE + (word * 8 + sign) * 10000 + number.
+    // An entry of a ruling's code is AND, OR, NOT, CLAUSE_END, or a word, a sign and a number:
+    // COMPARE and word * WORD_STEP and sign * SIGN_STEP and number.
     private static final int CLAUSE_END = 11;
     private static final int COMPARE = 100;
+    private static final int SIGN_STEP = 10000;
+    private static final int WORD_STEP = 5 * SIGN_STEP;
 
     private final Tides tides = new Tides();
     private final Waves waves = new Waves();
@@ -58,8 +61,9 @@ public final class PoolCoast {
     private final Samples samples = new Samples();
     private final Lease[] leases = new Lease[LEASES_MOST];
     private final Planner planner = new Planner();
-    private final Verdict verdict = new Verdict();
     private final int[] facts = new int[FACTS];
+    // Of the pool whose cause was sought last; it holds the sets that were found.
+    private Evidence soughtLast;
     private int poolCount;
     private int rulingCount;
     private int leaseCount;
@@ -374,15 +378,19 @@ public final class PoolCoast {
 
     public int cause(int pool) {
         Pool p = poolAt(pool);
-        return p == null ? NONE : verdict.seek(p.evidence);
+        if (p == null) {
+            return NONE;
+        }
+        soughtLast = p.evidence;
+        return p.evidence.seek();
     }
 
     public int causes(int k, int i) {
-        return verdict.suspectOf(k, i);
+        return soughtLast == null ? NONE : soughtLast.suspectOf(k, i);
     }
 
     public int look() {
-        return verdict.nextLook();
+        return soughtLast == null ? NONE : soughtLast.nextLook();
     }
 
     public int lease(int pool, int coins, int first, int last) {
@@ -989,7 +997,7 @@ public final class PoolCoast {
             takeWord(word);
             int sign = takeSign();
             int number = takeNumber();
-            emit(COMPARE + (word * 8 + sign) * 10000 + number);
+            emit(COMPARE + word * WORD_STEP + sign * SIGN_STEP + number);
         }
 
         private int takeSign() {
@@ -1130,7 +1138,7 @@ public final class PoolCoast {
             boolean named = false;
             for (int i = 0; i < code.length; i++) {
                 code[i] = at(source, i);
-                named = named || code[i] >= COMPARE && (code[i] - COMPARE) / 80000 == TEST;
+                named = named || code[i] >= COMPARE && (code[i] - COMPARE) / WORD_STEP == TEST;
             }
             this.namesTest = named;
         }
@@ -1162,9 +1170,9 @@ public final class PoolCoast {
         }
 
         private static boolean holds(int compare, int[] facts) {
-            int fact = at(facts, compare / 80000);
-            int number = compare % 10000;
-            switch (compare / 10000 % 8) {
+            int fact = at(facts, compare / WORD_STEP);
+            int number = compare % SIGN_STEP;
+            switch (compare % WORD_STEP / SIGN_STEP) {
                 case LESS: return fact < number;
                 case AT_MOST: return fact <= number;
                 case EQUAL: return fact == number;
@@ -1287,10 +1295,14 @@ public final class PoolCoast {
         }
     }
 
-    /** A pool's nights and suspects. */
+    /** A pool's nights and suspects, and the sets of these that explained all nights when last sought. */
     private static final class Evidence {
-        static final int SUSPECTS_MOST = 8;
+        private static final int SUSPECTS_MOST = 8;
         private static final int NIGHTS_MOST = 20;
+        private static final int SETS_MOST = 36;
+        private static final int LOOK_STEP = 10;
+        private static final int LOOK_LAST = 300;
+        private static final int LOOK_TICKS = 12;
 
         private final int area;
         private final int[] from = new int[NIGHTS_MOST];
@@ -1298,8 +1310,12 @@ public final class PoolCoast {
         private final int[] times = new int[NIGHTS_MOST];
         private final int[] depths = new int[SUSPECTS_MOST];
         private final int[] rates = new int[SUSPECTS_MOST];
+        // A set is the suspect in the one row, with that in the other, or NONE there.
+        private final int[] ones = new int[SETS_MOST];
+        private final int[] others = new int[SETS_MOST];
         private int nights;
-        int suspects;
+        private int suspects;
+        private int sets;
 
         Evidence(int area) {
             this.area = area;
@@ -1328,70 +1344,28 @@ public final class PoolCoast {
             return suspects - 1;
         }
 
-        /** Whether one suspect, or two (other: NONE for one alone), explain all nights. */
-        boolean explains(int one, int other) {
-            for (int i = 0; i < nights; i++) {
-                int off = depthAfter(at(from, i), at(times, i), one, other) - at(to, i);
-                if (!within(off, -1, 1)) {
-                    return false;
-                }
-            }
-            return true;
-        }
-
-        int depthAfter(int depth, int ticks, int one, int other) {
-            int units = depth * area;
-            for (int i = 0; i < ticks; i++) {
-                units -= taken(units, one);
-                if (other != NONE) {
-                    units -= taken(units, other);
-                }
-            }
-            return area > 0 ? units / area : 0;
-        }
-
-        private int taken(int units, int suspect) {
-            int depth = area > 0 ? units / area : 0;
-            int own = at(depths, suspect);
-            return own < depth ? Math.min(at(rates, suspect) * (depth - own), units - area * own) : 0;
-        }
-    }
-
-    /** The sets of suspects that explained all nights when the cause was last sought. */
-    private static final class Verdict {
-        private static final int SETS_MOST = 36;
-        private static final int LOOK_STEP = 10;
-        private static final int LOOK_LAST = 300;
-        private static final int LOOK_TICKS = 12;
-
-        private final int[] ones = new int[SETS_MOST];
-        private final int[] others = new int[SETS_MOST];
-        private Evidence evidence;
-        private int size;
-
-        int seek(Evidence sought) {
-            evidence = sought;
-            size = 0;
-            for (int one = 0; one < sought.suspects; one++) {
+        int seek() {
+            sets = 0;
+            for (int one = 0; one < suspects; one++) {
                 addIfExplaining(one, NONE);
             }
-            for (int one = 0; one < sought.suspects; one++) {
-                for (int other = one + 1; other < sought.suspects; other++) {
+            for (int one = 0; one < suspects; one++) {
+                for (int other = one + 1; other < suspects; other++) {
                     addIfExplaining(one, other);
                 }
             }
-            return size;
+            return sets;
         }
 
         int suspectOf(int k, int i) {
-            if (!within(k, 0, size - 1) || !within(i, 0, 1)) {
+            if (!within(k, 0, sets - 1) || !within(i, 0, 1)) {
                 return NONE;
             }
             return i == 0 ? at(ones, k) : at(others, k);
         }
 
         int nextLook() {
-            if (size < 2) {
+            if (sets < 2) {
                 return NONE;
             }
             int look = NONE;
@@ -1406,23 +1380,44 @@ public final class PoolCoast {
             return look;
         }
 
-        private void addIfExplaining(int one, int other) {
-            if (evidence != null && evidence.explains(one, other)) {
-                put(ones, size, one);
-                put(others, size, other);
-                size++;
-            }
-        }
-
         private int spreadFrom(int depth) {
-            int least = DEPTH_MOST;
+            int least = depth;
             int most = 0;
-            for (int k = 0; k < size && evidence != null; k++) {
-                int told = evidence.depthAfter(depth, LOOK_TICKS, at(ones, k), at(others, k));
+            for (int k = 0; k < sets; k++) {
+                int told = depthAfter(depth, LOOK_TICKS, at(ones, k), at(others, k));
                 least = Math.min(least, told);
                 most = Math.max(most, told);
             }
             return most - least;
+        }
+
+        private void addIfExplaining(int one, int other) {
+            for (int i = 0; i < nights; i++) {
+                int off = depthAfter(at(from, i), at(times, i), one, other) - at(to, i);
+                if (!within(off, -1, 1)) {
+                    return;
+                }
+            }
+            put(ones, sets, one);
+            put(others, sets, other);
+            sets++;
+        }
+
+        private int depthAfter(int depth, int ticks, int one, int other) {
+            int units = depth * area;
+            for (int i = 0; i < ticks; i++) {
+                units -= taken(units, one);
+                if (other != NONE) {
+                    units -= taken(units, other);
+                }
+            }
+            return area > 0 ? units / area : 0;
+        }
+
+        private int taken(int units, int suspect) {
+            int depth = area > 0 ? units / area : 0;
+            int own = at(depths, suspect);
+            return own < depth ? Math.min(at(rates, suspect) * (depth - own), units - area * own) : 0;
         }
     }
 

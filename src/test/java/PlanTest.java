@@ -49,8 +49,8 @@ public final class PlanTest {
         due("day -1", x.low(0, -1), -1);
         due("day 100", x.low(0, 100), -1);
         due("day 99", x.low(0, 99), 0);
-        x.turn(144, 1);
-        x.turn(144 + 60, 1);
+        x.turn(144, -7);
+        x.turn(144 + 60, -7);
         x.turn(144 + 72, 300);
         due("a turn at the level of the one ahead", x.low(0, 1), 0);
         x.turn(288, 100);

@@ -20,6 +20,7 @@ public final class PoolTest {
         cracksInAndOut();
         overTheWall();
         underTheSea();
+        floorsBelowZero();
         pumps();
         ages();
         dirtAndStorms();
@@ -243,6 +244,35 @@ public final class PoolTest {
         y.pool(100, 0, 100, 100, 0, 3, 30);
         y.pass(7);
         due("the sea at the wall", y.about(0, WATER), 3000);
+    }
+
+    /** The same flows as above 100 centimetres lower. */
+    private static void floorsBelowZero() {
+        PoolCoast x = stillSea(-80);
+        x.pool(100, -100, 0, -50, 7, 0, 80);
+        x.sluice(0, true);
+        x.pass(1);
+        due("down to the sill", x.about(0, WATER), 8000 - 7 * 30);
+        due("level", x.about(0, LEVEL), -23);
+        PoolCoast y = stillSea(-30);
+        y.pool(10, -100, 0, -50, 50, 0, 71);
+        y.sluice(0, true);
+        y.pass(1);
+        due("no further than the sea", y.about(0, WATER), 700);
+        y.crack(0, -40, 50);
+        y.sluice(0, false);
+        y.pump(0, 2);
+        y.pass(2);
+        due("in by the pump, out by the crack", y.about(0, WATER), 704);
+        PoolCoast z = stillSea(10);
+        z.pool(100, -100, 0, 0, 0, 3, 30);
+        z.pass(1);
+        due("as the sea", z.about(0, WATER), 11000);
+        PoolCoast v = stillSea(-200);
+        v.pool(100, -100, 0, 0, 0, 0, 100);
+        v.pump(0, 50);
+        v.pass(2);
+        due("no further than the wall", v.about(0, WATER), 10000);
     }
 
     private static void pumps() {
