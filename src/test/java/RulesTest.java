@@ -26,6 +26,12 @@ public final class RulesTest {
 
     /** Puts a text on the tape and makes it rules. */
     static int tell(PoolCoast x, String text) {
+        put(x, text);
+        return x.rules();
+    }
+
+    /** Puts a text on the tape in place of what stands there. */
+    static void put(PoolCoast x, String text) {
         x.end(0);
         for (int i = 0; i < text.length(); i += 20) {
             int[] five = new int[5];
@@ -35,7 +41,6 @@ public final class RulesTest {
             x.feed(five[0], five[1], five[2], five[3], five[4]);
         }
         x.end(text.length());
-        return x.rules();
     }
 
     private static void clauses(String text, int want) {
