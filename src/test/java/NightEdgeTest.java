@@ -17,6 +17,7 @@ public final class NightEdgeTest {
         lookTicks();
         leastLook();
         lookByOne();
+        looksOfFewerSets();
         CHECK.finish();
     }
 
@@ -325,5 +326,20 @@ public final class NightEdgeTest {
         x.suspect(0, 0, 20);
         due("all sets", x.cause(0), 3);
         due("the last of the depths", x.look(), 300);
+    }
+
+    /** A look is by the sets of the latest cause alone, not by those of one ahead of it. */
+    private static void looksOfFewerSets() {
+        PoolCoast x = withPool(1);
+        x.suspect(0, 0, 50);
+        x.suspect(0, 77, 50);
+        x.suspect(0, 77, 50);
+        due("all sets", x.cause(0), 6);
+        due("77 apart", x.look(), 80);
+        x.night(0, 9, 9, 1);
+        due("those without 0", x.cause(0), 3);
+        due("its first", x.causes(0, 0), 1);
+        due("none behind its last", x.causes(3, 0), -1);
+        due("they tell the same", x.look(), 10);
     }
 }

@@ -119,6 +119,14 @@ public final class PlanEdgeTest {
         due("in hour 16 of the next day", x.low(0, 1), 1);
         x.turn(246, -2);
         due("one more by night", x.low(0, 1), 1);
+        PoolCoast midnight = new PoolCoast();
+        midnight.pool(10, 0, 100, 100, 0, 0, 0);
+        midnight.turn(143, 5);
+        midnight.turn(204, -1);
+        midnight.turn(288, 5);
+        midnight.turn(348, -1);
+        due("a turn in the tick ahead of the day", midnight.low(0, 1), 1);
+        due("a turn in the day's first tick", midnight.low(0, 2), 1);
         PoolCoast late = Coasts.passTo(new PoolCoast(), 14400 - 144);
         late.pool(10, 0, 100, 100, 0, 0, 0);
         late.turn(14400 - 144 + 42, 0);
@@ -136,6 +144,8 @@ public final class PlanEdgeTest {
             due("tomorrow at " + tick, x.plan(1, today + 1, 1, 1, 999), 0);
             int last = (tick / 6 + 241) / 24;
             due("as far as is foretold at " + tick, x.plan(1, last, 6, 1, 999), 0);
+            due("cleaned as far as is foretold at " + tick, x.plan(1, last, 1, 1, 0), 1);
+            due("the furthest day at " + tick, x.planned(0), last);
             due("further at " + tick, x.plan(1, last + 1, 1, 1, 999), -1);
         }
         PoolCoast y = Coasts.passTo(tidal(1, 1), 144 * 99 - 1);

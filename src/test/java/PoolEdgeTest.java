@@ -75,6 +75,7 @@ public final class PoolEdgeTest {
         due("the empty one's level", x.about(1, LEVEL), -300);
         due("the empty one's age", x.about(1, AGE), 0);
         due("the small one's water", x.about(2, WATER), 1);
+        due("the small one's level", x.about(2, LEVEL), 801);
         due("the small one's age", x.about(2, AGE), 2);
         due("clean the empty one", x.clean(1), 0);
         due("clean the full one", x.clean(0), -1);

@@ -23,6 +23,7 @@ public final class RulesEdgeTest {
         tenRules();
         rulesAsKnown();
         testsTaken();
+        untested();
         testsAsKnown();
         fullOfTests();
         clausesInOrder();
@@ -71,6 +72,12 @@ public final class RulesEdgeTest {
         due("behind the 13", x.feed(0x39202020, 0x20202020, 0x20202020, 0x20202020, 0x20202020), 33);
         due("the end as it was", x.end(33), 33);
         due("joined", x.rules(), 2);
+        x.feed(0x64617979, 0x79797979, 0x79797979, 0x79797979, 0x79797979);
+        due("letters", x.end(3), 3);
+        due("a WORD has none of the letters that were cut off", x.rules(), -2 - (1 + 8 * 3));
+        x.feed(0x6461793c, 0x31323334, 0x35363738, 0x39303132, 0x33343536);
+        due("digits", x.end(8), 8);
+        due("a NUMBER has none of the digits that were cut off", x.rules(), 1);
         x.feed(-1, 0, 0, 0, 0);
         due("byte 255", x.rules(), -2 - 1);
         x.feed(0x20202020, 0x20ff2020, 0, 0, 0);
@@ -353,6 +360,24 @@ public final class RulesEdgeTest {
         due("in its hour", x.closed(0, 9, 10), 4);
         x.test(0, 10, 9999);
         due("a result of 9999", x.closed(0, 10, 10), 1);
+        RulesTest.tell(x, "test<9999;test>9998");
+        due("with the greatest NUMBERS", x.closed(0, 10, 10), 2);
+        due("a lesser result", x.closed(0, 9, 10), 1);
+        RulesTest.tell(x, "test>9999;test>=9999");
+        due("at the greatest NUMBER", x.closed(0, 10, 10), 2);
+        due("below the greatest NUMBER", x.closed(0, 9, 10), 0);
+    }
+
+    /** A pool that was never tested, by rules that name tests alone, one text on each coast. */
+    private static void untested() {
+        String[] texts = {"test<9999", "test<=9998", "test=9999", "test>=9999", "test>9998", "test>9999",
+            "not test=9999"};
+        int[] want = {0, 0, 1, 1, 1, 0, 0};
+        for (int i = 0; i < texts.length; i++) {
+            PoolCoast x = quiet();
+            RulesTest.tell(x, texts[i]);
+            due("untested, " + texts[i], x.closed(0, 0, 0), want[i]);
+        }
     }
 
     private static void testsAsKnown() {

@@ -182,6 +182,14 @@ public final class SeaEdgeTest {
         due("rows", x.count(2), 1500);
         due("the last one of hour 7", x.waved(7, 0), 444);
         due("the last one of hour 8", x.waved(8, 0), (8 + 241 * 6) % 400);
+        PoolCoast y = new PoolCoast();
+        y.wave(7, 33);
+        y.pass(6);
+        for (int i = 1; i < 1500; i++) {
+            y.wave(7, 44);
+        }
+        due("of 1500 rows of one hour the only one known in 0", y.waved(7, 0), 33);
+        due("the last one known in 1", y.waved(7, 1), 44);
     }
 
     private static void worstAsItIsNow() {
