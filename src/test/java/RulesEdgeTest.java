@@ -27,6 +27,7 @@ public final class RulesEdgeTest {
         testsAsKnown();
         fullOfTests();
         clausesInOrder();
+        textsOfTheSharedTest();
         closedWhere();
         openAtTheFarEnd();
         CHECK.finish();
@@ -407,6 +408,27 @@ public final class RulesEdgeTest {
         due("tests", x.count(5), 500);
         due("the 500th counts", x.closed(0, 0, 0), 2);
         due("the 499th of the other pool", x.closed(1, 0, 0), 1);
+    }
+
+    /** What ../shared/tests feeds to the tape, read as rules too. */
+    private static void textsOfTheSharedTest() {
+        fault("depth<1;", 8, CANNOT_STAND);
+        fault("depth 5", 6, CANNOT_STAND);
+        clauses("day = 9", 1);
+        PoolCoast x = quiet();
+        due("clauses", RulesTest.tell(x, "depth < 30 ; wave > 50 or hour < 6 ;test >= 100 and not age < 2"), 3);
+        for (int hour = 0; hour < 24; hour++) {
+            // The water is a new pool's: its age at an hour's end is the hour and one.
+            due("age in hour " + hour, x.hour(0, hour, 1), hour + 1);
+            due("closed in hour " + hour, x.closed(0, hour, 0), hour < 6 ? 2 : 3);
+        }
+        x.test(0, 0, 99);
+        due("a test below 100", x.closed(0, 6, 0), 0);
+        due("open hours", x.open(0, 0, 0), 18);
+        x.wave(7, 51);
+        due("a wave", x.closed(0, 7, 0), 2);
+        x.pump(0, -1000);
+        due("little water", x.closed(0, 7, 0), 1);
     }
 
     private static void clausesInOrder() {
